@@ -290,6 +290,7 @@ public final class PromisesTest {
         valueIs("SHARE of two", x, share, 1.0 / 3.0);
         x.part(share, b);
         doesNotHold("SHARE of three", x, share);
+        doesNotHold("SHARE of three of which two hold", x, made(x, SHARE, 0, a, b, no));
         doesNotHold("SHARE whose first does not hold", x, made(x, SHARE, 0, no, a));
         doesNotHold("SHARE whose second does not hold", x, made(x, SHARE, 0, a, no));
         valueIs("SHARE by 0.0", x, made(x, SHARE, 0, a, zero), INFINITY);
@@ -546,10 +547,12 @@ public final class PromisesTest {
         same("ALL, the same bits", x.turned(made(x, ALL, 0, a, b, a)), 1);
         same("SOME, other bits", x.turned(made(x, SOME, 2, a, no, b, c)), 0);
         same("SOME, the same bits", x.turned(made(x, SOME, 2, a, no, b)), 1);
-        same("TIMES, other bits", x.turned(made(x, TIMES, 0, a, made(x, ALL, 0, b, a), c)), turnedTimes());
+        same("TIMES, other bits", x.turned(made(x, TIMES, 0, a, b, c)), 0);
+        same("TIMES, the same bits", x.turned(made(x, TIMES, 0, a, b, a)), 1);
         same("what does not hold either way", x.turned(made(x, ALL, 0, a, b, c, no)), 1);
         same("SOME that has too few", x.turned(made(x, SOME, 4, a, b, c)), 1);
         same("0.0, for it is no number, and 0.0", x.turned(made(x, TIMES, 0, huge, ten, zero)), 1);
+        same("0.0, and 0.0, for it is no number", x.turned(made(x, TIMES, 0, zero, ten, huge)), 1);
         int most = give(x, Double.MAX_VALUE);
         int least = give(x, -INFINITY);
         same("0.0, for it is no number, and infinite", x.turned(made(x, ALL, 0, most, most, least)), 0);
@@ -562,14 +565,8 @@ public final class PromisesTest {
         same("turned, a SHARE", x.turned(made(x, SHARE, 0, a, b)), STATE);
         same("turned, unknown", x.turned(x.about(0)), UNKNOWN);
         same("turned, below 0", x.turned(-1), UNKNOWN);
-        TracedSums y = new TracedSums();
-        int minusZero = give(y, -0.0);
-        same("its own parts alone are turned", y.turned(made(y, TIMES, 0, minusZero, give(y, 2.0))), 1);
-    }
-
-    private static int turnedTimes() {
-        double sum = 0.2 + 0.1;
-        return 0.1 * sum * 0.3 == 0.3 * sum * 0.1 ? 1 : 0;
+        int sum = made(x, ALL, 0, a, b, c);
+        same("its own parts alone are turned", x.turned(made(x, ALL, 0, sum)), 1);
     }
 
     // Promise 14

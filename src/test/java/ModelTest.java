@@ -1,0 +1,327 @@
+/** Long runs of drawn calls, each answered by TracedSums and by the Model alike. */
+public final class ModelTest {
+    private static final int RUNS = 4000;
+    private static final int CALLS = 512;
+    private static final Checks CHECKS = new Checks("ModelTest");
+    private static final long[] BITS = {
+        bits(0.0), bits(-0.0), bits(1.0), bits(-1.0), bits(2.0), bits(0.1), bits(0.2), bits(0.3), bits(0.7), bits(3.0),
+        bits(1e308), bits(-1e308), bits(10.0), bits(1e-308), bits(Double.MIN_VALUE), bits(Double.MAX_VALUE),
+        bits(Double.POSITIVE_INFINITY), bits(Double.NEGATIVE_INFINITY), bits(Double.NaN), 0x7FF0000000000001L
+    };
+
+    private long state;
+    private TracedSums program;
+    private Model model;
+    private String called;
+    /** How many in a hundred new nodes give way to a new part. */
+    private int partsFirst;
+    private int seenPairs;
+    private int seenMore;
+    private int seenUnturned;
+
+    public static void main(String[] args) {
+        ModelTest test = new ModelTest();
+        for (int run = 0; run < RUNS && !CHECKS.hasFailed(); run++) {
+            test.run(run);
+        }
+        for (int run = 0; run < 12 && !CHECKS.hasFailed(); run++) {
+            test.runDense(run);
+        }
+        CHECKS.isTrue("the runs saw long comparisons", test.seenPairs > 100);
+        CHECKS.isTrue("the runs saw more lines than are kept", test.seenMore > 100);
+        CHECKS.isTrue("the runs saw sums that depend on their order", test.seenUnturned > 100);
+        CHECKS.end();
+    }
+
+    private static long bits(double value) {
+        return Double.doubleToRawLongBits(value);
+    }
+
+    private int draw(int bound) {
+        state = state * 6364136223846793005L + 1442695040888963407L;
+        return (int) ((state >>> 33) % bound);
+    }
+
+    /** Mostly a node that is there, more often a late one. */
+    private int drawNode() {
+        int count = model.about(0);
+        int kind = draw(40);
+        if (kind == 0 || count == 0) {
+            return draw(64) - 2;
+        }
+        return kind < 20 ? count - 1 - draw(count < 5 ? count : 5) : draw(count);
+    }
+
+    private long drawBits(int tame) {
+        if (draw(3) < tame) {
+            return BITS[2 + draw(8)];
+        }
+        if (draw(10) == 0) {
+            return (long) draw(1 << 30) << 34 ^ (long) draw(1 << 30) << 10 ^ draw(1 << 30);
+        }
+        return BITS[draw(BITS.length)];
+    }
+
+    private int drawLength() {
+        return draw(20) == 0 ? -1 - draw(5) : draw(1 << 30) * 2 + 1 >> draw(31);
+    }
+
+    private void run(int run) {
+        state = run * 7919L + 1L;
+        draw(2);
+        program = new TracedSums();
+        model = new Model();
+        int tame = draw(4);
+        partsFirst = draw(80);
+        for (int call = 0; call < CALLS && !CHECKS.hasFailed(); call++) {
+            if (call < 250 + draw(100)) {
+                build(tame);
+            } else {
+                ask();
+            }
+            if (CHECKS.hasFailed()) {
+                System.out.println("in run " + run + ", call " + call + ": " + called);
+            }
+        }
+    }
+
+    /** Nodes of one sort with six parts each, so that comparisons find as many pairs as may be. */
+    private void runDense(int run) {
+        state = run * 104729L + 5L;
+        draw(2);
+        program = new TracedSums();
+        model = new Model();
+        int leaves = 2 + draw(9);
+        int calls = leaves;
+        for (int i = 0; i < leaves; i++) {
+            answer("given", program.given(bits(i + 1.0), true), model.given(bits(i + 1.0), true));
+        }
+        int sort = new int[] {1, 2, 3, 4}[draw(4)];
+        int reach = 2 + draw(20);
+        for (int node = leaves; calls < 420 && node < 60; node++) {
+            answer("node", program.node(sort, 1), model.node(sort, 1));
+            calls += 7;
+            for (int i = 0; i < 6; i++) {
+                int part = Math.max(0, node - 1 - draw(reach));
+                answer("part", program.part(node, part), model.part(node, part));
+            }
+        }
+        for (; calls < CALLS; calls++) {
+            compare(model.about(0) - 1 - draw(5), model.about(0) - 1 - draw(5));
+        }
+    }
+
+    private void build(int tame) {
+        int kind = draw(100);
+        if (kind < 36 && draw(100) < partsFirst) {
+            kind = 50;
+        }
+        if (kind < 12) {
+            long bits = drawBits(tame);
+            boolean does = draw(8) > 0;
+            answer("given", program.given(bits, does), model.given(bits, does));
+        } else if (kind < 30) {
+            int sort = draw(30) == 0 ? draw(11) - 1 : new int[] {1, 1, 1, 2, 2, 3, 3, 4, 4, 7}[draw(10)];
+            int need = draw(20) == 0 ? draw(9) - 1 : 1 + draw(3);
+            answer("node", program.node(sort, need), model.node(sort, need));
+        } else if (kind < 33) {
+            int part = drawNode();
+            long bits = drawBits(tame);
+            answer("lift", program.lift(part, bits), model.lift(part, bits));
+        } else if (kind < 36) {
+            int length = drawLength();
+            answer("norm", program.norm(length), model.norm(length));
+        } else if (kind < 90) {
+            int node = drawNode();
+            int part = draw(4) == 0 ? drawNode() : Math.max(0, node - 1 - draw(6));
+            answer("part", program.part(node, part), model.part(node, part));
+        } else {
+            ask();
+        }
+    }
+
+    private void ask() {
+        int node = drawNode();
+        int what = draw(20) - 2;
+        switch (draw(17)) {
+            case 0: {
+                boolean does = draw(3) > 0;
+                answer("holds", program.holds(node, does), model.holds(node, does));
+                break;
+            }
+            case 1:
+                value(node);
+                break;
+            case 2:
+                factor(node);
+                break;
+            case 3:
+                packed(node, draw(5) - 1);
+                break;
+            case 4:
+            case 5:
+                answer("told", program.told(node, what), model.told(node, what));
+                break;
+            case 6:
+                answer("input", program.input(node, what), model.input(node, what));
+                break;
+            case 7:
+                turned(node);
+                break;
+            case 8:
+                explain(node);
+                break;
+            case 9: {
+                int k = draw(1 + model.about(1)) - draw(2);
+                int aspect = draw(7) - 1;
+                answer("line", program.line(k, aspect), model.line(k, aspect));
+                break;
+            }
+            case 10:
+            case 11:
+                text(draw(1 + model.about(1)) - draw(2), draw(60) - 1);
+                break;
+            case 12: {
+                int l = draw(4) - 1;
+                answer("language", program.language(l), model.language(l));
+                break;
+            }
+            case 13:
+                compare(node, drawNode());
+                break;
+            case 14: {
+                int k = draw(2 + model.about(3)) - draw(2);
+                int aspect = draw(5) - 1;
+                answer("parts", program.parts(k, aspect), model.parts(k, aspect));
+                break;
+            }
+            case 15: {
+                int aspect = draw(6) - 1;
+                answer("about", program.about(aspect), model.about(aspect));
+                break;
+            }
+            default:
+                if (draw(150) == 0) {
+                    answer("clear", program.clear(), model.clear());
+                }
+        }
+    }
+
+    private void answer(String call, int got, int due) {
+        called = call;
+        CHECKS.same(call, got, due);
+    }
+
+    private void turned(int node) {
+        int due = model.turned(node);
+        answer("turned", program.turned(node), due);
+        seenUnturned += due == 0 ? 1 : 0;
+    }
+
+    /** After each explanation every line is looked at, and the text of some. */
+    private void explain(int node) {
+        answer("explain", program.explain(node), model.explain(node));
+        seenMore += model.about(2);
+        answer("about(2)", program.about(2), model.about(2));
+        for (int k = 0; k < model.about(1); k++) {
+            for (int what = 0; what <= 4; what++) {
+                answer("line", program.line(k, what), model.line(k, what));
+            }
+        }
+        int k = draw(200);
+        for (int i = -1; i < 40; i++) {
+            text(k, i);
+        }
+    }
+
+    private void compare(int a, int b) {
+        int due = model.compare(a, b);
+        answer("compare", program.compare(a, b), due);
+        seenPairs = Math.max(seenPairs, due);
+        for (int k = 0; k <= due; k++) {
+            for (int what = 0; what <= 2; what++) {
+                answer("parts", program.parts(k, what), model.parts(k, what));
+            }
+        }
+    }
+
+    private void value(int node) {
+        called = "value";
+        double got = 0.0;
+        double due = 0.0;
+        String thrown = "nothing";
+        String dueThrown = "nothing";
+        try {
+            got = program.value(node);
+        } catch (RuntimeException e) {
+            thrown = e.getClass().getName();
+        }
+        try {
+            due = model.value(node);
+        } catch (RuntimeException e) {
+            dueThrown = e.getClass().getName();
+        }
+        CHECKS.sameBits("value", got, due);
+        CHECKS.sameText("what value throws", thrown, dueThrown);
+    }
+
+    private void factor(int node) {
+        called = "factor";
+        double got = 0.0;
+        double due = 0.0;
+        String thrown = "nothing";
+        String dueThrown = "nothing";
+        try {
+            got = program.factor(node);
+        } catch (RuntimeException e) {
+            thrown = e.getClass().getName();
+        }
+        try {
+            due = model.factor(node);
+        } catch (RuntimeException e) {
+            dueThrown = e.getClass().getName();
+        }
+        CHECKS.sameBits("factor", got, due);
+        CHECKS.sameText("what factor throws", thrown, dueThrown);
+    }
+
+    private void packed(int node, int what) {
+        called = "packed";
+        int got = 0;
+        int due = 0;
+        String thrown = "nothing";
+        String dueThrown = "nothing";
+        try {
+            got = program.packed(node, what);
+        } catch (RuntimeException e) {
+            thrown = e.getClass().getName();
+        }
+        try {
+            due = model.packed(node, what);
+        } catch (RuntimeException e) {
+            dueThrown = e.getClass().getName();
+        }
+        answer("packed", got, due);
+        CHECKS.sameText("what packed throws", thrown, dueThrown);
+    }
+
+    private void text(int k, int i) {
+        called = "text";
+        int got = 0;
+        int due = 0;
+        String thrown = "nothing";
+        String dueThrown = "nothing";
+        try {
+            got = program.text(k, i);
+        } catch (RuntimeException e) {
+            thrown = e.getClass().getName();
+        }
+        try {
+            due = model.text(k, i);
+        } catch (RuntimeException e) {
+            dueThrown = e.getClass().getName();
+        }
+        answer("text", got, due);
+        CHECKS.sameText("what text throws", thrown, dueThrown);
+    }
+}
