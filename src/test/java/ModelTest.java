@@ -1,3 +1,5 @@
+import java.util.function.DoubleSupplier;
+
 /** Long runs of drawn calls, each answered by TracedSums and by the Model alike. */
 public final class ModelTest {
     private static final int RUNS = 4000;
@@ -246,82 +248,32 @@ public final class ModelTest {
     }
 
     private void value(int node) {
-        called = "value";
-        double got = 0.0;
-        double due = 0.0;
-        String thrown = "nothing";
-        String dueThrown = "nothing";
-        try {
-            got = program.value(node);
-        } catch (RuntimeException e) {
-            thrown = e.getClass().getName();
-        }
-        try {
-            due = model.value(node);
-        } catch (RuntimeException e) {
-            dueThrown = e.getClass().getName();
-        }
-        CHECKS.sameBits("value", got, due);
-        CHECKS.sameText("what value throws", thrown, dueThrown);
+        answerOrThrow("value", () -> program.value(node), () -> model.value(node));
     }
 
     private void factor(int node) {
-        called = "factor";
-        double got = 0.0;
-        double due = 0.0;
-        String thrown = "nothing";
-        String dueThrown = "nothing";
-        try {
-            got = program.factor(node);
-        } catch (RuntimeException e) {
-            thrown = e.getClass().getName();
-        }
-        try {
-            due = model.factor(node);
-        } catch (RuntimeException e) {
-            dueThrown = e.getClass().getName();
-        }
-        CHECKS.sameBits("factor", got, due);
-        CHECKS.sameText("what factor throws", thrown, dueThrown);
+        answerOrThrow("factor", () -> program.factor(node), () -> model.factor(node));
     }
 
     private void packed(int node, int what) {
-        called = "packed";
-        int got = 0;
-        int due = 0;
-        String thrown = "nothing";
-        String dueThrown = "nothing";
-        try {
-            got = program.packed(node, what);
-        } catch (RuntimeException e) {
-            thrown = e.getClass().getName();
-        }
-        try {
-            due = model.packed(node, what);
-        } catch (RuntimeException e) {
-            dueThrown = e.getClass().getName();
-        }
-        answer("packed", got, due);
-        CHECKS.sameText("what packed throws", thrown, dueThrown);
+        answerOrThrow("packed", () -> program.packed(node, what), () -> model.packed(node, what));
     }
 
     private void text(int k, int i) {
-        called = "text";
-        int got = 0;
-        int due = 0;
-        String thrown = "nothing";
-        String dueThrown = "nothing";
+        answerOrThrow("text", () -> program.text(k, i), () -> model.text(k, i));
+    }
+
+    private void answerOrThrow(String call, DoubleSupplier got, DoubleSupplier due) {
+        called = call;
+        CHECKS.sameText(call, outcome(got), outcome(due));
+    }
+
+    /** The bits of what it answers, or the name of what it throws. */
+    private static String outcome(DoubleSupplier call) {
         try {
-            got = program.text(k, i);
+            return Long.toHexString(bits(call.getAsDouble()));
         } catch (RuntimeException e) {
-            thrown = e.getClass().getName();
+            return e.getClass().getName();
         }
-        try {
-            due = model.text(k, i);
-        } catch (RuntimeException e) {
-            dueThrown = e.getClass().getName();
-        }
-        answer("text", got, due);
-        CHECKS.sameText("what text throws", thrown, dueThrown);
     }
 }

@@ -1,3 +1,5 @@
+import java.util.function.DoubleSupplier;
+
 /** For each promise: ordinary inputs, the edges that the document names, and wrong inputs. */
 public final class PromisesTest {
     private static final int NONE = -1, UNKNOWN = -101, OUTSIDE = -102, FULL = -103, STATE = -104;
@@ -102,35 +104,24 @@ public final class PromisesTest {
     }
 
     private static void noValue(TracedSums x, int node) {
-        try {
-            x.value(node);
-            CHECKS.fail("value(" + node + ") throws nothing");
-        } catch (ArrayIndexOutOfBoundsException e) {
-            same("value throws its exception", e.getClass() == ArrayIndexOutOfBoundsException.class ? 1 : 0, 1);
-        }
+        CHECKS.sameText("value of " + node, thrownBy(() -> x.value(node)), "ArrayIndexOutOfBoundsException");
     }
 
     private static String thrownByFactor(TracedSums x, int node) {
-        try {
-            x.factor(node);
-            return "nothing";
-        } catch (RuntimeException e) {
-            return e.getClass().getSimpleName();
-        }
+        return thrownBy(() -> x.factor(node));
     }
 
     private static String thrownByPacked(TracedSums x, int node, int what) {
-        try {
-            x.packed(node, what);
-            return "nothing";
-        } catch (RuntimeException e) {
-            return e.getClass().getSimpleName();
-        }
+        return thrownBy(() -> x.packed(node, what));
     }
 
     private static String thrownByText(TracedSums x, int k, int i) {
+        return thrownBy(() -> x.text(k, i));
+    }
+
+    private static String thrownBy(DoubleSupplier call) {
         try {
-            x.text(k, i);
+            call.getAsDouble();
             return "nothing";
         } catch (RuntimeException e) {
             return e.getClass().getSimpleName();
