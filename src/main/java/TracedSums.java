@@ -119,29 +119,29 @@ public final class TracedSums {
 
     public double value(int node) throws ArrayIndexOutOfBoundsException {
         if (!nodes.has(node)) {
-            throw new ArrayIndexOutOfBoundsException("no such node");
+            throw new ArrayIndexOutOfBoundsException();
         }
         return nodes.at(node).value;
     }
 
     public double factor(int node) throws ArrayIndexOutOfBoundsException, ClassCastException {
         if (!nodes.has(node)) {
-            throw new ArrayIndexOutOfBoundsException("no such node");
+            throw new ArrayIndexOutOfBoundsException();
         }
         Node lift = nodes.at(node);
         if (lift.sort != Sort.LIFT) {
-            throw new ClassCastException("no lift");
+            throw new ClassCastException();
         }
         return lift.factor;
     }
 
     public int packed(int node, int what) throws ArrayIndexOutOfBoundsException, ClassCastException {
         if (!nodes.has(node)) {
-            throw new ArrayIndexOutOfBoundsException("no such node");
+            throw new ArrayIndexOutOfBoundsException();
         }
         Node norm = nodes.at(node);
         if (norm.sort != Sort.NORM) {
-            throw new ClassCastException("no norm");
+            throw new ClassCastException();
         }
         switch (what) {
             case 0:
@@ -237,11 +237,11 @@ public final class TracedSums {
 
     public int text(int k, int i) throws ArrayIndexOutOfBoundsException {
         if (!explanation.has(k)) {
-            throw new ArrayIndexOutOfBoundsException("no such line");
+            throw new ArrayIndexOutOfBoundsException();
         }
         StringBuilder written = explanation.write(k, language);
         if (i < 0 || i >= written.length()) {
-            throw new ArrayIndexOutOfBoundsException("no such byte");
+            throw new ArrayIndexOutOfBoundsException();
         }
         return written.charAt(i);
     }

@@ -110,7 +110,7 @@ public final class LanguageTest {
         matchesOnly(code, "\\bLong\\.\\w+", "Long\\.bitCount");
         matchesOnly(code, "\\bArrays\\.\\w+", "Arrays\\.fill");
         matchesOnly(code, "\\bthrow\\b[^;]*;",
-            "throw new (ArrayIndexOutOfBoundsException|ClassCastException)\\(\"[a-z ]+\"\\);");
+            "throw new (ArrayIndexOutOfBoundsException|ClassCastException)\\(\\);");
     }
 
     private static void matchesOnly(String code, String found, String allowed) {

@@ -119,12 +119,14 @@ public final class PromisesTest {
         return thrownBy(() -> x.text(k, i));
     }
 
+    /** What a call throws; a text told with it shows behind the name, since the document asks for none. */
     private static String thrownBy(DoubleSupplier call) {
         try {
             call.getAsDouble();
             return "nothing";
         } catch (RuntimeException e) {
-            return e.getClass().getSimpleName();
+            String name = e.getClass().getSimpleName();
+            return e.getMessage() == null ? name : name + ": " + e.getMessage();
         }
     }
 
