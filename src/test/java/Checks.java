@@ -1,11 +1,17 @@
 /** Counts checks, and prints those that fail. */
 final class Checks {
     private final String name;
+    private String heading = "";
     private int passed;
     private int failed;
 
     Checks(String name) {
         this.name = name;
+    }
+
+    /** What the checks from now on belong to: it is printed with those that fail. */
+    void head(String heading) {
+        this.heading = heading;
     }
 
     void same(String what, long got, long due) {
@@ -43,8 +49,12 @@ final class Checks {
     void fail(String what) {
         failed++;
         if (failed <= 50) {
-            System.out.println(name + ": " + what);
+            System.out.println(name + ": " + (heading.isEmpty() ? "" : heading + ": ") + what);
         }
+    }
+
+    int count() {
+        return passed + failed;
     }
 
     boolean hasFailed() {

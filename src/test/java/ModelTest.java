@@ -1,8 +1,8 @@
 import java.util.function.DoubleSupplier;
 
-/** Long runs of drawn calls, each answered by TracedSums and by the Model alike. */
+/** Runs of drawn calls, as many as an object is used for, each answered by TracedSums and by the Model alike. */
 public final class ModelTest {
-    private static final int RUNS = 4000;
+    private static final int RUNS = 12000;
     private static final int CALLS = 512;
     private static final Checks CHECKS = new Checks("ModelTest");
     private static final long[] BITS = {
@@ -15,6 +15,7 @@ public final class ModelTest {
     private TracedSums program;
     private Model model;
     private String called;
+    private int calls;
     /** How many in a hundred new nodes give way to a new part. */
     private int partsFirst;
     private int seenPairs;
@@ -26,11 +27,11 @@ public final class ModelTest {
         for (int run = 0; run < RUNS && !CHECKS.hasFailed(); run++) {
             test.run(run);
         }
-        for (int run = 0; run < 12 && !CHECKS.hasFailed(); run++) {
+        for (int run = 0; run < 200 && !CHECKS.hasFailed(); run++) {
             test.runDense(run);
         }
-        CHECKS.isTrue("the runs saw long comparisons", test.seenPairs > 100);
-        CHECKS.isTrue("the runs saw more lines than are kept", test.seenMore > 100);
+        CHECKS.isTrue("the runs saw long comparisons", test.seenPairs > 500);
+        CHECKS.isTrue("the runs saw more lines than are kept", test.seenMore > 1000);
         CHECKS.isTrue("the runs saw sums that depend on their order", test.seenUnturned > 100);
         CHECKS.end();
     }
@@ -71,30 +72,33 @@ public final class ModelTest {
     private void run(int run) {
         state = run * 7919L + 1L;
         draw(2);
-        program = new TracedSums();
-        model = new Model();
+        begin();
         int tame = draw(4);
         partsFirst = draw(80);
-        for (int call = 0; call < CALLS && !CHECKS.hasFailed(); call++) {
-            if (call < 250 + draw(100)) {
+        while (calls < CALLS && !CHECKS.hasFailed()) {
+            if (calls < 250 + draw(100)) {
                 build(tame);
             } else {
                 ask();
             }
             if (CHECKS.hasFailed()) {
-                System.out.println("in run " + run + ", call " + call + ": " + called);
+                System.out.println("in run " + run + ", call " + calls + ": " + called);
             }
         }
+    }
+
+    private void begin() {
+        program = new TracedSums();
+        model = new Model();
+        calls = 0;
     }
 
     /** Nodes of one sort with six parts each, so that comparisons find as many pairs as may be. */
     private void runDense(int run) {
         state = run * 104729L + 5L;
         draw(2);
-        program = new TracedSums();
-        model = new Model();
-        int leaves = 2 + draw(9);
-        int calls = leaves;
+        begin();
+        int leaves = 2 + draw(19);
         for (int i = 0; i < leaves; i++) {
             answer("given", program.given(bits(i + 1.0), true), model.given(bits(i + 1.0), true));
         }
@@ -102,13 +106,12 @@ public final class ModelTest {
         int reach = 2 + draw(20);
         for (int node = leaves; calls < 420 && node < 60; node++) {
             answer("node", program.node(sort, 1), model.node(sort, 1));
-            calls += 7;
             for (int i = 0; i < 6; i++) {
                 int part = Math.max(0, node - 1 - draw(reach));
                 answer("part", program.part(node, part), model.part(node, part));
             }
         }
-        for (; calls < CALLS; calls++) {
+        while (calls < CALLS) {
             compare(model.about(0) - 1 - draw(5), model.about(0) - 1 - draw(5));
         }
     }
@@ -173,12 +176,9 @@ public final class ModelTest {
             case 8:
                 explain(node);
                 break;
-            case 9: {
-                int k = draw(1 + model.about(1)) - draw(2);
-                int aspect = draw(7) - 1;
-                answer("line", program.line(k, aspect), model.line(k, aspect));
+            case 9:
+                line(draw(1 + model.about(1)) - draw(2));
                 break;
-            }
             case 10:
             case 11:
                 text(draw(1 + model.about(1)) - draw(2), draw(60) - 1);
@@ -191,12 +191,9 @@ public final class ModelTest {
             case 13:
                 compare(node, drawNode());
                 break;
-            case 14: {
-                int k = draw(2 + model.about(3)) - draw(2);
-                int aspect = draw(5) - 1;
-                answer("parts", program.parts(k, aspect), model.parts(k, aspect));
+            case 14:
+                parts(draw(2 + model.about(3)) - draw(2));
                 break;
-            }
             case 15: {
                 int aspect = draw(6) - 1;
                 answer("about", program.about(aspect), model.about(aspect));
@@ -211,6 +208,7 @@ public final class ModelTest {
 
     private void answer(String call, int got, int due) {
         called = call;
+        calls++;
         CHECKS.same(call, got, due);
     }
 
@@ -220,31 +218,36 @@ public final class ModelTest {
         seenUnturned += due == 0 ? 1 : 0;
     }
 
-    /** After each explanation every line is looked at, and the text of some. */
+    /** After each explanation some of its lines are looked at, and some bytes of one. */
     private void explain(int node) {
         answer("explain", program.explain(node), model.explain(node));
         seenMore += model.about(2);
-        answer("about(2)", program.about(2), model.about(2));
-        for (int k = 0; k < model.about(1); k++) {
-            for (int what = 0; what <= 4; what++) {
-                answer("line", program.line(k, what), model.line(k, what));
-            }
+        for (int i = 0; i < 8 && calls < CALLS; i++) {
+            line(i == 0 ? model.about(1) - 1 : draw(model.about(1) + 2) - 1);
         }
-        int k = draw(200);
-        for (int i = -1; i < 40; i++) {
+        int k = draw(model.about(1) + 1);
+        for (int i = draw(8) - 1; i < 40 && calls < CALLS; i += 1 + draw(8)) {
             text(k, i);
         }
+    }
+
+    private void line(int k) {
+        int what = draw(7) - 1;
+        answer("line", program.line(k, what), model.line(k, what));
     }
 
     private void compare(int a, int b) {
         int due = model.compare(a, b);
         answer("compare", program.compare(a, b), due);
         seenPairs = Math.max(seenPairs, due);
-        for (int k = 0; k <= due; k++) {
-            for (int what = 0; what <= 2; what++) {
-                answer("parts", program.parts(k, what), model.parts(k, what));
-            }
+        for (int i = 0; i < 8 && calls < CALLS; i++) {
+            parts(i == 0 ? due - 1 : draw(Math.max(due, 0) + 2) - 1);
         }
+    }
+
+    private void parts(int k) {
+        int what = draw(5) - 1;
+        answer("parts", program.parts(k, what), model.parts(k, what));
     }
 
     private void value(int node) {
@@ -265,6 +268,7 @@ public final class ModelTest {
 
     private void answerOrThrow(String call, DoubleSupplier got, DoubleSupplier due) {
         called = call;
+        calls++;
         CHECKS.sameText(call, outcome(got), outcome(due));
     }
 

@@ -1,13 +1,17 @@
-import java.util.function.DoubleSupplier;
-
 /** For each promise: ordinary inputs, the edges that the document names, and wrong inputs. */
-public final class PromisesTest {
-    private static final int NONE = -1, UNKNOWN = -101, OUTSIDE = -102, FULL = -103, STATE = -104;
-    private static final int ALL = 1, SOME = 2, TIMES = 3, BEST = 4, SHARE = 7;
-    private static final double INFINITY = Double.POSITIVE_INFINITY;
-    private static final Checks CHECKS = new Checks("PromisesTest");
+public final class PromisesTest extends Asking {
+
+    private PromisesTest() {
+        super("PromisesTest");
+    }
 
     public static void main(String[] args) {
+        PromisesTest test = new PromisesTest();
+        test.all();
+        test.checks.end();
+    }
+
+    private void all() {
         newObject();
         given();
         givenBits();
@@ -40,98 +44,10 @@ public final class PromisesTest {
         about();
         clear();
         full();
-        CHECKS.end();
-    }
-
-    private static void same(String what, long got, long due) {
-        CHECKS.same(what, got, due);
-    }
-
-    private static int give(TracedSums x, double value) {
-        return x.given(Double.doubleToRawLongBits(value), true);
-    }
-
-    private static int giveFailing(TracedSums x, double value) {
-        return x.given(Double.doubleToRawLongBits(value), false);
-    }
-
-    private static int lifted(TracedSums x, int part, double factor) {
-        return x.lift(part, Double.doubleToRawLongBits(factor));
-    }
-
-    private static int made(TracedSums x, int sort, int need, int... parts) {
-        int node = x.node(sort, need);
-        for (int part : parts) {
-            x.part(node, part);
-        }
-        return node;
-    }
-
-    private static void valueIs(String what, TracedSums x, int node, double due) {
-        CHECKS.sameBits(what, x.value(node), due);
-        same(what + " holds", x.told(node, 1), 1);
-    }
-
-    private static void doesNotHold(String what, TracedSums x, int node) {
-        CHECKS.sameBits(what, x.value(node), 0.0);
-        same(what + " holds", x.told(node, 1), 0);
-    }
-
-    private static String textOf(TracedSums x, int k) {
-        StringBuilder text = new StringBuilder();
-        int length = x.line(k, 4);
-        for (int i = 0; i < length; i++) {
-            text.append((char) x.text(k, i));
-        }
-        return text.toString();
-    }
-
-    private static void textIs(TracedSums x, int k, String due) {
-        CHECKS.sameText("the text of line " + k, textOf(x, k), due);
-    }
-
-    private static void lineIs(TracedSums x, int k, int node, int depth, int used, int owner) {
-        same("node of line " + k, x.line(k, 0), node);
-        same("depth of line " + k, x.line(k, 1), depth);
-        same("use of line " + k, x.line(k, 2), used);
-        same("owner of line " + k, x.line(k, 3), owner);
-    }
-
-    private static void pairIs(TracedSums x, int k, int first, int second, int why) {
-        same("first of pair " + k, x.parts(k, 0), first);
-        same("second of pair " + k, x.parts(k, 1), second);
-        same("why of pair " + k, x.parts(k, 2), why);
-    }
-
-    private static void noValue(TracedSums x, int node) {
-        CHECKS.sameText("value of " + node, thrownBy(() -> x.value(node)), "ArrayIndexOutOfBoundsException");
-    }
-
-    private static String thrownByFactor(TracedSums x, int node) {
-        return thrownBy(() -> x.factor(node));
-    }
-
-    private static String thrownByPacked(TracedSums x, int node, int what) {
-        return thrownBy(() -> x.packed(node, what));
-    }
-
-    private static String thrownByText(TracedSums x, int k, int i) {
-        return thrownBy(() -> x.text(k, i));
-    }
-
-    /** What a call throws; a text told with it shows behind the name, since the document asks for none. */
-    private static String thrownBy(DoubleSupplier call) {
-        try {
-            call.getAsDouble();
-            return "nothing";
-        } catch (RuntimeException e) {
-            String name = e.getClass().getSimpleName();
-            return e.getMessage() == null ? name : name + ": " + e.getMessage();
-        }
     }
 
     // Promise 1
-    private static void newObject() {
+    private void newObject() {
         same("NONE", TracedSums.NONE, NONE);
         same("UNKNOWN", TracedSums.UNKNOWN, UNKNOWN);
         same("OUTSIDE", TracedSums.OUTSIDE, OUTSIDE);
@@ -151,7 +67,7 @@ public final class PromisesTest {
     }
 
     // Promise 2
-    private static void given() {
+    private void given() {
         TracedSums x = new TracedSums();
         same("the first number", give(x, 1.5), 0);
         same("the second number", giveFailing(x, 2.5), 1);
@@ -165,7 +81,7 @@ public final class PromisesTest {
         same("refusals change nothing", x.about(0), 2);
     }
 
-    private static void givenBits() {
+    private void givenBits() {
         long[] bits = {
             0L, 1L, 2L, 3L, Long.MIN_VALUE, Long.MIN_VALUE | 1L, 0x000FFFFFFFFFFFFFL, 0x0010000000000000L,
             0x0010000000000001L, 0x001FFFFFFFFFFFFFL, 0x0020000000000000L, 0x3FF0000000000000L, 0x3FF0000000000001L,
@@ -188,7 +104,7 @@ public final class PromisesTest {
     }
 
     // Promise 3
-    private static void node() {
+    private void node() {
         TracedSums x = new TracedSums();
         same("ALL", x.node(ALL, -5), 0);
         same("SOME, least need", x.node(SOME, 1), 1);
@@ -214,7 +130,7 @@ public final class PromisesTest {
         doesNotHold("SHARE without parts", x, 5);
     }
 
-    private static void sums() {
+    private void sums() {
         TracedSums x = new TracedSums();
         int a = give(x, 0.1);
         int b = give(x, 0.2);
@@ -233,7 +149,7 @@ public final class PromisesTest {
         valueIs("SOME from 0.0 on", x, made(x, SOME, 1, zero), 0.0);
     }
 
-    private static void products() {
+    private void products() {
         TracedSums x = new TracedSums();
         int a = give(x, 0.1);
         int b = give(x, 0.7);
@@ -246,7 +162,7 @@ public final class PromisesTest {
         doesNotHold("TIMES with one that does not hold", x, made(x, TIMES, 0, a, no));
     }
 
-    private static void best() {
+    private void best() {
         TracedSums x = new TracedSums();
         int small = give(x, -5.0);
         int great = give(x, 7.0);
@@ -270,7 +186,7 @@ public final class PromisesTest {
         same("the next one wins", x.told(best, 3), equal);
     }
 
-    private static void share() {
+    private void share() {
         TracedSums x = new TracedSums();
         int a = give(x, 1.0);
         int b = give(x, 3.0);
@@ -291,7 +207,7 @@ public final class PromisesTest {
         valueIs("SHARE of 0.0", x, made(x, SHARE, 0, zero, b), 0.0);
     }
 
-    private static void noNumber() {
+    private void noNumber() {
         TracedSums x = new TracedSums();
         int infinite = give(x, INFINITY);
         int below = give(x, -INFINITY);
@@ -312,7 +228,7 @@ public final class PromisesTest {
     }
 
     // Promise 4
-    private static void lift() {
+    private void lift() {
         TracedSums x = new TracedSums();
         int a = give(x, 0.1);
         int no = giveFailing(x, 1.0);
@@ -330,7 +246,7 @@ public final class PromisesTest {
     }
 
     // Promise 5
-    private static void norm() {
+    private void norm() {
         int[] lengths = {0, 7, 8, 15, 16, 17, 18, 31, 32, 35, 36, 1000, 1 << 30, Integer.MAX_VALUE};
         int[] packed = {0, 7, 8, 15, 16, 16, 17, 23, 24, 24, 25, 63, 224, 231};
         int[] unpacked = {0, 7, 8, 15, 16, 16, 18, 30, 32, 32, 36, 960, 1 << 30, 2013265920};
@@ -349,7 +265,7 @@ public final class PromisesTest {
     }
 
     // Promise 6
-    private static void part() {
+    private void part() {
         TracedSums x = new TracedSums();
         int a = give(x, 1.0);
         int norm = x.norm(4);
@@ -379,7 +295,7 @@ public final class PromisesTest {
     }
 
     // Promise 7
-    private static void holds() {
+    private void holds() {
         TracedSums x = new TracedSums();
         int a = giveFailing(x, 2.5);
         int all = made(x, ALL, 0, a);
@@ -398,35 +314,35 @@ public final class PromisesTest {
     }
 
     // Promise 8
-    private static void value() {
+    private void value() {
         TracedSums x = new TracedSums();
-        noValue(x, 0);
+        valueThrows(x, 0, NO_INDEX);
         give(x, 4.5);
         valueIs("value", x, 0, 4.5);
-        noValue(x, 1);
-        noValue(x, -1);
-        noValue(x, 60);
-        noValue(x, Integer.MIN_VALUE);
+        valueThrows(x, 1, NO_INDEX);
+        valueThrows(x, -1, NO_INDEX);
+        valueThrows(x, 60, NO_INDEX);
+        valueThrows(x, Integer.MIN_VALUE, NO_INDEX);
     }
 
     // Promise 9
-    private static void factor() {
+    private void factor() {
         TracedSums x = new TracedSums();
-        CHECKS.sameText("factor of nothing", thrownByFactor(x, 0), "ArrayIndexOutOfBoundsException");
+        factorThrows(x, 0, NO_INDEX);
         int no = giveFailing(x, 4.5);
-        CHECKS.sameBits("factor", x.factor(lifted(x, no, -0.0)), -0.0);
-        CHECKS.sameBits("factor", x.factor(lifted(x, no, 1.25)), 1.25);
-        CHECKS.sameText("factor of a GIVEN", thrownByFactor(x, no), "ClassCastException");
-        CHECKS.sameText("factor of a NORM", thrownByFactor(x, x.norm(2)), "ClassCastException");
-        CHECKS.sameText("factor of an ALL", thrownByFactor(x, x.node(ALL, 0)), "ClassCastException");
-        CHECKS.sameText("factor of the next", thrownByFactor(x, 5), "ArrayIndexOutOfBoundsException");
-        CHECKS.sameText("factor below 0", thrownByFactor(x, -1), "ArrayIndexOutOfBoundsException");
+        sameBits("factor", x.factor(lifted(x, no, -0.0)), -0.0);
+        sameBits("factor", x.factor(lifted(x, no, 1.25)), 1.25);
+        factorThrows(x, no, NO_CAST);
+        factorThrows(x, x.norm(2), NO_CAST);
+        factorThrows(x, x.node(ALL, 0), NO_CAST);
+        factorThrows(x, 5, NO_INDEX);
+        factorThrows(x, -1, NO_INDEX);
     }
 
     // Promise 10
-    private static void packed() {
+    private void packed() {
         TracedSums x = new TracedSums();
-        CHECKS.sameText("packed of nothing", thrownByPacked(x, 0, 0), "ArrayIndexOutOfBoundsException");
+        packedThrows(x, 0, 0, NO_INDEX);
         int norm = x.norm(1001);
         same("length", x.packed(norm, 0), 1001);
         same("packed", x.packed(norm, 1), 63);
@@ -434,14 +350,14 @@ public final class PromisesTest {
         same("any other", x.packed(norm, -1), 960);
         same("any other", x.packed(norm, Integer.MAX_VALUE), 960);
         int a = give(x, 1.0);
-        CHECKS.sameText("packed of a GIVEN", thrownByPacked(x, a, 0), "ClassCastException");
-        CHECKS.sameText("packed of a LIFT", thrownByPacked(x, lifted(x, a, 1.0), 9), "ClassCastException");
-        CHECKS.sameText("packed of the next", thrownByPacked(x, 3, 1), "ArrayIndexOutOfBoundsException");
-        CHECKS.sameText("packed below 0", thrownByPacked(x, -1, 1), "ArrayIndexOutOfBoundsException");
+        packedThrows(x, a, 0, NO_CAST);
+        packedThrows(x, lifted(x, a, 1.0), 9, NO_CAST);
+        packedThrows(x, 3, 1, NO_INDEX);
+        packedThrows(x, -1, 1, NO_INDEX);
     }
 
     // Promise 11
-    private static void told() {
+    private void told() {
         TracedSums x = new TracedSums();
         int a = give(x, 1.0);
         int no = giveFailing(x, 2.0);
@@ -470,7 +386,7 @@ public final class PromisesTest {
         same("told, unknown", x.told(-1, 0), UNKNOWN);
     }
 
-    private static void cause() {
+    private void cause() {
         TracedSums x = new TracedSums();
         int a = give(x, 1.0);
         int no = giveFailing(x, 2.0);
@@ -492,7 +408,7 @@ public final class PromisesTest {
     }
 
     // Promises 11 and 12
-    private static void inputs() {
+    private void inputs() {
         TracedSums x = new TracedSums();
         int a = give(x, 1.0);
         int norm = x.norm(3);
@@ -527,7 +443,7 @@ public final class PromisesTest {
     }
 
     // Promise 13
-    private static void turned() {
+    private void turned() {
         TracedSums x = new TracedSums();
         int a = give(x, 0.1);
         int b = give(x, 0.2);
@@ -563,7 +479,7 @@ public final class PromisesTest {
     }
 
     // Promise 14
-    private static void explain() {
+    private void explain() {
         TracedSums x = new TracedSums();
         same("explain, unknown", x.explain(0), UNKNOWN);
         int a = give(x, 1.0);
@@ -585,7 +501,7 @@ public final class PromisesTest {
         lineIs(x, 5, a, 2, 1, 4);
     }
 
-    private static void explainUsed() {
+    private void explainUsed() {
         TracedSums x = new TracedSums();
         int a = give(x, 1.0);
         int no = giveFailing(x, 2.0);
@@ -614,7 +530,7 @@ public final class PromisesTest {
         lineIs(x, 2, c, 1, 1, 0);
     }
 
-    private static void explainAtMost200() {
+    private void explainAtMost200() {
         TracedSums x = new TracedSums();
         int a = give(x, 1.0);
         int six = made(x, ALL, 0, a, a, a, a, a, a);
@@ -650,7 +566,7 @@ public final class PromisesTest {
     }
 
     // Promise 15
-    private static void line() {
+    private void line() {
         TracedSums x = new TracedSums();
         same("line, no explanation", x.line(0, 0), UNKNOWN);
         int a = give(x, 1.0);
@@ -677,9 +593,9 @@ public final class PromisesTest {
     }
 
     // Promise 16
-    private static void text() {
+    private void text() {
         TracedSums x = new TracedSums();
-        CHECKS.sameText("text, no explanation", thrownByText(x, 0, 0), "ArrayIndexOutOfBoundsException");
+        textThrows(x, 0, 0, NO_INDEX);
         int a = give(x, 2.0);
         int norm = x.norm(9);
         int no = giveFailing(x, 1.0);
@@ -706,15 +622,15 @@ public final class PromisesTest {
         for (int k = 0; k < german.length; k++) {
             textIs(x, k, german[k]);
         }
-        CHECKS.sameText("the last byte", thrownByText(x, 0, 9), "nothing");
-        CHECKS.sameText("no such byte", thrownByText(x, 0, 10), "ArrayIndexOutOfBoundsException");
-        CHECKS.sameText("byte below 0", thrownByText(x, 0, -1), "ArrayIndexOutOfBoundsException");
-        CHECKS.sameText("no such line", thrownByText(x, 11, 0), "ArrayIndexOutOfBoundsException");
-        CHECKS.sameText("line below 0", thrownByText(x, -1, 0), "ArrayIndexOutOfBoundsException");
+        textThrows(x, 0, 9, "nothing");
+        textThrows(x, 0, 10, NO_INDEX);
+        textThrows(x, 0, -1, NO_INDEX);
+        textThrows(x, 11, 0, NO_INDEX);
+        textThrows(x, -1, 0, NO_INDEX);
     }
 
     // Promise 17
-    private static void language() {
+    private void language() {
         TracedSums x = new TracedSums();
         same("it was 0", x.language(1), 0);
         same("it was 1", x.language(1), 1);
@@ -725,7 +641,7 @@ public final class PromisesTest {
     }
 
     // Promise 18
-    private static void compare() {
+    private void compare() {
         TracedSums x = new TracedSums();
         same("compare, unknown", x.compare(0, 0), UNKNOWN);
         int a = give(x, 1.0);
@@ -767,7 +683,7 @@ public final class PromisesTest {
         same("refusals change nothing", x.about(3), 0);
     }
 
-    private static void comparePairsOnce() {
+    private void comparePairsOnce() {
         TracedSums x = new TracedSums();
         int a = give(x, 1.0);
         int b = give(x, 2.0);
@@ -795,7 +711,7 @@ public final class PromisesTest {
     }
 
     // Promise 19
-    private static void parts() {
+    private void parts() {
         TracedSums x = new TracedSums();
         same("parts, no compare()", x.parts(0, 0), UNKNOWN);
         int a = give(x, 1.0);
@@ -817,7 +733,7 @@ public final class PromisesTest {
     }
 
     // Promise 20
-    private static void about() {
+    private void about() {
         TracedSums x = new TracedSums();
         int a = give(x, 1.0);
         int b = give(x, 2.0);
@@ -833,7 +749,7 @@ public final class PromisesTest {
     }
 
     // Promise 21
-    private static void clear() {
+    private void clear() {
         TracedSums x = new TracedSums();
         same("clear nothing", x.clear(), 0);
         int a = give(x, 1.0);
@@ -849,7 +765,7 @@ public final class PromisesTest {
         for (int what = 0; what <= 3; what++) {
             same("about(" + what + ") after clear", x.about(what), 0);
         }
-        noValue(x, 0);
+        valueThrows(x, 0, NO_INDEX);
         same("line after clear", x.line(0, 0), UNKNOWN);
         same("parts after clear", x.parts(0, 0), UNKNOWN);
         same("language after clear", x.language(0), 0);
@@ -857,7 +773,7 @@ public final class PromisesTest {
         doesNotHold("the new node", x, 0);
     }
 
-    private static void full() {
+    private void full() {
         TracedSums x = new TracedSums();
         for (int i = 0; i < 60; i++) {
             same("a number", give(x, i), i);
